@@ -26,6 +26,7 @@ public final class DaysTest {
         cardsAreServedByNumber();
         allottedIsRenewedOnTheWeekday0();
         passTellsPortionsOfItsDays();
+        daysOfAFullTown();
         Check.finish("DaysTest");
     }
 
@@ -378,5 +379,35 @@ public final class DaysTest {
         Check.due("pass(4)", town.pass(4), 3);
         Check.due("pass(60)", town.pass(60), 11);
         Check.due("count(5)", town.count(5), 24);
+    }
+
+    private static void daysOfAFullTown() {
+        ChicoryRoasters town = Towns.withRoasted(40, 0);
+        town.setShare(0);
+        town.drum(1, 1);
+        town.drum(1, 2);
+        town.give(0, 4);
+        for (int i = 0; i < 4; i++) {
+            town.bed(i + 1, 99);
+            town.smuggler(i + 2, 1);
+            town.send(i);
+            town.load(i, 0, 1);
+        }
+        for (int card = 0; card < 10; card++) {
+            town.card(9, 0);
+        }
+        Check.due("foresee(2, 5)", town.foresee(2, 5), 24);
+        Check.due("foresee(5, 2)", town.foresee(5, 2), 4);
+        Check.due("pass(1)", town.pass(1), 20);
+        int[] levels = {6, 4, 1, 2};
+        for (int i = 0; i < 4; i++) {
+            Check.due("about(" + i + ", 2)", town.about(i, 2), i + 1);
+            Check.due("roast(" + i + ", 4)", town.roast(i, 4), levels[i]);
+            Check.due("told(" + i + ", 3)", town.told(i, 3), i + 1);
+        }
+        for (int card = 0; card < 10; card++) {
+            Check.due("ration(" + card + ", 2)", town.ration(card, 2), 7);
+        }
+        Check.due("pass(1)", town.pass(1), 4);
     }
 }

@@ -117,6 +117,12 @@ public final class WouldBeTest {
         cut.setHeat(1, 1);
         Check.due("roast(1, 5) at the level 13", cut.roast(1, 5), 5);
         Check.due("ready(1) of two days alike", cut.ready(1), 0);
+        ChicoryRoasters little = withLoad(1, 1, 9);
+        little.pass(1);
+        little.setHeat(1, 5);
+        little.pass(1);
+        Check.due("roast(1, 5) at the level 14", little.roast(1, 5), 1);
+        Check.due("ready(1) of a single part", little.ready(1), 0);
     }
 
     private static void promise21ReadyNever() {
